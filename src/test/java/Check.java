@@ -1,3 +1,5 @@
+import java.util.List;
+
 /** Compares answers with those that are due; close() ends the program with exit code 1 if one was wrong. */
 final class Check {
     static final int NONE = -2147483648;
@@ -22,12 +24,32 @@ final class Check {
 
     private int asked = 0;
     private int wrong = 0;
+    private String sentence = "";
+
+    /** Answers that are wrong from now on are told with the promise, and the words of it, that they break. */
+    void sentence(String promise, String words) {
+        sentence = "[" + promise + ": '" + words + "'] ";
+    }
 
     void due(String what, long got, long want) {
         asked++;
         if (got != want) {
             wrong++;
-            System.out.println(what + " answered " + got + ", due is " + want);
+            System.out.println(sentence + what + " answered " + got + ", due is " + want);
+        }
+    }
+
+    /** Compares whole transcripts; only the first place where they differ is told. */
+    void same(String what, List<String> got, List<String> want) {
+        int at = 0;
+        while (at < got.size() && at < want.size() && got.get(at).equals(want.get(at))) {
+            at++;
+        }
+        asked++;
+        if (at < got.size() || at < want.size()) {
+            wrong++;
+            System.out.println(sentence + what + ": then " + (at < got.size() ? got.get(at) : "nothing") + ", due is "
+                + (at < want.size() ? want.get(at) : "nothing"));
         }
     }
 
