@@ -168,7 +168,7 @@ public final class CardsTest {
             for (int bit = 1; bit <= 5; bit++) {
                 HandLoom x = new HandLoom();
                 x.thread(0, Check.YARN, 1);
-                hookFault(x, fault);
+                Check.hookFault(x, fault);
                 x.keeper(1 << bit);
                 C.due("fault " + fault + ", bit " + bit, x.run(2), bit == fault ? 2 : 0);
                 C.due("told(0)", x.told(0), bit == fault ? 0 : fault);
@@ -176,23 +176,6 @@ public final class CardsTest {
                 x.keeper(62 - (1 << bit));
                 C.due("all but bit " + bit, x.run(1), bit == fault ? 0 : 1);
             }
-        }
-    }
-
-    private static void hookFault(HandLoom x, int fault) {
-        switch (fault) {
-            case Check.MISSING:
-                x.card(Check.LOOK, 1, Check.YARN, 0, 0);
-                break;
-            case Check.OUTSIDE:
-                x.card(Check.LOOK, 0, Check.YARN, 1, 0);
-                break;
-            case Check.EMPTY:
-                x.card(Check.PULL, 0, Check.YARN, 0, 0);
-                break;
-            default:
-                x.card(Check.PART, 0, Check.YARN, 0, 0);
-                break;
         }
     }
 

@@ -95,6 +95,11 @@ final class Check {
         return x.act(LOOK, frame, lane, i, 0);
     }
 
+    /** Hooks a card that has the fault, where YARN of frame 0 has one end and 1 none; no card can have SIZE. */
+    static void hookFault(HandLoom x, int fault) {
+        x.card(fault == EMPTY ? PULL : PART, fault == MISSING ? 1 : 0, YARN, fault == OUTSIDE ? 1 : 0, 0);
+    }
+
     void close() {
         System.out.println(asked + " answers, " + wrong + " wrong");
         if (wrong != 0) {

@@ -8,6 +8,7 @@ public final class EdgesOfActsTest {
     private static final int[] EVEN = {0, 2, -2, 65536, MIN, MAX - 1};
 
     public static void main(String[] args) {
+        faultsByTheirNumbers();
         fullSpool();
         for (int lane = 0; lane < 5; lane++) {
             kindsAreNoughtToFour(lane);
@@ -18,6 +19,7 @@ public final class EdgesOfActsTest {
             pullFaults(lane);
             turnFaults(lane);
             partFaults(lane);
+            severalFaults(lane);
             eachAnswersWhatTheEndTells(lane);
         }
         layOfLift();
@@ -35,6 +37,48 @@ public final class EdgesOfActsTest {
         HandLoom x = new HandLoom();
         x.thread(0, lane, 2);
         return x;
+    }
+
+    private static void faultsByTheirNumbers() {
+        C.sentence("Terms", "FAULTS: 1 MISSING; 2 OUTSIDE; 3 SIZE; 4 EMPTY; 5 ZERO");
+        HandLoom x = loom(Check.YARN);
+        C.fault("the lane is not threaded", x, 0, x.ends(1, Check.YARN), 1);
+        C.fault("there is no cloth", x, 1, x.cell(0, 0), 1);
+        C.fault("no such end", x, 0, Check.look(x, 0, Check.YARN, 2), 2);
+        C.fault("a number of ends below 0", x, 0, x.thread(0, Check.YARN, -1), 3);
+        C.fault("a number of picks below 0", x, 1, x.cloth(-1, 1), 3);
+        x.cloth(1, 1);
+        C.fault("no such pick ever", x, 1, x.cell(1, 0), 2);
+        x.snip(0);
+        C.fault("no such pick any more", x, 2, x.cell(0, 0), 1);
+        C.fault("to draw when there is no thread", x, 0, x.act(Check.LAY, 0, Check.YARN, 0, 0), 4);
+        C.fault("to part by 0", x, 0, x.act(Check.PART, 0, Check.YARN, 0, 0), 5);
+    }
+
+    /** Each call could have all faults that it knows at once: only the first one is told, and it is counted alone. */
+    private static void severalFaults(int lane) {
+        C.sentence("Terms", "Where several could be, they are told in their order");
+        HandLoom x = loom(lane);
+        int[] kinds = {Check.LOOK, Check.LAY, Check.PULL, Check.TURN, Check.PART};
+        for (int k = 0; k < kinds.length; k++) {
+            x.act(kinds[k], 1, lane, -1, 0);
+            C.due("kind " + kinds[k], x.told(0), kinds[k] == Check.LAY ? Check.EMPTY : Check.MISSING);
+            C.due("alone", Check.total(x), 2 * k + 1);
+            x.act(kinds[k], 0, lane, 2, 0);
+            C.due("kind " + kinds[k], x.told(0), kinds[k] == Check.LAY ? Check.EMPTY : Check.OUTSIDE);
+            C.due("alone", Check.total(x), 2 * k + 2);
+        }
+        x.swap(1, lane, -1, -1);
+        C.due("swap", x.told(0), Check.MISSING);
+        x.hang(-1, -1);
+        C.due("hang", x.told(0), Check.MISSING);
+        x.cell(-1, -1);
+        C.due("cell", x.told(0), Check.MISSING);
+        x.weave(3, -1, 0);
+        C.due("weave", x.told(0), Check.MISSING);
+        x.cloth(-1, -1);
+        C.due("cloth", x.told(0), Check.SIZE);
+        C.due("each alone", Check.total(x), 15);
     }
 
     private static void fullSpool() {

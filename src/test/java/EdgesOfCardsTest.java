@@ -77,8 +77,7 @@ public final class EdgesOfCardsTest {
     private static boolean passesOver(HandLoom x, int fault) {
         x.unhook();
         x.thread(0, Check.YARN, 1);
-        x.card(fault == Check.EMPTY ? Check.PULL : Check.PART, fault == Check.MISSING ? 1 : 0, Check.YARN,
-            fault == Check.OUTSIDE ? 1 : 0, 0);
+        Check.hookFault(x, fault);
         return x.run(1) == 1;
     }
 

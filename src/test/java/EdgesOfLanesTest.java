@@ -28,6 +28,7 @@ public final class EdgesOfLanesTest {
             swapTellsTheFirst(lane);
             swapFaults(lane);
         }
+        swapKeepsLessThanAnEighth();
         C.close();
     }
 
@@ -53,16 +54,10 @@ public final class EdgesOfLanesTest {
             }
             HandLoom x = new HandLoom();
             x.thread(0, Check.YARN, 1);
-            hookFault(x, fault);
+            Check.hookFault(x, fault);
             C.due("fault " + fault, x.run(1), 0);
             C.due("told", x.told(0), fault);
         }
-    }
-
-    /** A card that has the fault, where YARN of frame 0 has one end; no card can have SIZE. */
-    private static void hookFault(HandLoom x, int fault) {
-        x.card(fault == Check.EMPTY ? Check.PULL : Check.PART, fault == Check.MISSING ? 1 : 0, Check.YARN,
-            fault == Check.OUTSIDE ? 1 : 0, 0);
     }
 
     private static void threadedWithUpTo24(int lane) {
@@ -246,6 +241,17 @@ public final class EdgesOfLanesTest {
         x.thread(1, lane, 1);
         C.due("the only one with itself", x.swap(1, lane, 0, 0), 0);
         C.due("no faults", Check.total(x), 0);
+    }
+
+    private static void swapKeepsLessThanAnEighth() {
+        C.sentence("8 swap", "ENDS i and j of a LANE change places (what they have, not what they tell)");
+        HandLoom x = new HandLoom();
+        x.thread(0, Check.TENSION, 24);
+        Check.lay(x, 0, Check.TENSION, 0, -1);
+        x.act(Check.PART, 0, Check.TENSION, 0, 2);
+        C.due("both tell 0", x.swap(0, Check.TENSION, 0, 23), 0);
+        C.due("0", Check.pull(x, 0, Check.TENSION, 0, 8), 8);
+        C.due("less than 0", Check.pull(x, 0, Check.TENSION, 23, 8), 7);
     }
 
     private static void swapFaults(int lane) {

@@ -314,7 +314,8 @@ public final class EdgesOfTermsTest {
         int wound = 0;
         int drawn = 0;
         for (int round = 0; round < 13; round++) {
-            while (x.told(6) < 16 - round % 3) {
+            int room = 16 - round % 3 - (wound - drawn);
+            for (int k = 0; k < room; k++) {
                 wound++;
                 x.spool(wound);
             }

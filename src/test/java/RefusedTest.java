@@ -135,11 +135,11 @@ public final class RefusedTest {
         return x;
     }
 
-    /** As withoutFrame2(), without threads; to LAY is left out where there are some, for they are drawn then. */
+    /** As withoutFrame2(), with its three threads drawn. */
     private static HandLoom withoutThreads() {
         HandLoom x = withoutFrame2();
         x.thread(3, Check.DYE, 1);
-        while (x.told(6) > 0) {
+        for (int k = 0; k < 3; k++) {
             x.act(Check.LAY, 3, Check.DYE, 0, 0);
         }
         return x;
